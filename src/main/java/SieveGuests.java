@@ -589,9 +589,9 @@ public final class SieveGuests {
         /** How great a part must be to stay, at least. */
         static int least(int kind, int mesh, int wet) {
             int horsehair = mesh;
-            int silk = Math.max(1, horsehair - 3);
+            int silk = horsehair > 3 ? horsehair - 3 : 1;
             int coarse = horsehair + 4;
-            int wetted = Math.max(1, silk - wet);
+            int wetted = silk > wet ? silk - wet : 1;
             switch (kind) {
                 case 1:
                     return silk;
@@ -783,14 +783,9 @@ public final class SieveGuests {
             return Sieving.least(get(houseKinds, h), get(meshes, h), wet);
         }
 
-        /** The parts of a guest that are as great as that, as bits. */
-        int partsFrom(int i, int least) {
-            return Sieving.partsFrom(get(guestKinds, i), get(guestSizes, i), least);
-        }
-
         /** The parts of a guest that would stay at a house now, as bits; none of them at home. */
         int stayBits(int i, int h) {
-            return hasHouse(h) ? partsFrom(i, leastAt(h)) : 0;
+            return hasHouse(h) ? Sieving.partsFrom(get(guestKinds, i), get(guestSizes, i), leastAt(h)) : 0;
         }
 
         int stayCount(int i, int h) {
@@ -798,11 +793,12 @@ public final class SieveGuests {
         }
 
         int stayCountByMesh(int i, int h, int mesh) {
-            return Integer.bitCount(partsFrom(i, Sieving.least(get(houseKinds, h), mesh, wet)));
+            int least = Sieving.least(get(houseKinds, h), mesh, wet);
+            return Integer.bitCount(Sieving.partsFrom(get(guestKinds, i), get(guestSizes, i), least));
         }
 
         int stayCountByWet(int i, int h, int w) {
-            return Integer.bitCount(partsFrom(i, Sieving.least(get(houseKinds, h), get(meshes, h), w)));
+            return stayCountBySize(i, get(guestSizes, i), h, w);
         }
 
         int stayCountBySize(int i, int size, int h, int w) {
@@ -826,7 +822,7 @@ public final class SieveGuests {
             int parts = 0;
             for (int i = 0; i < guests; i++) {
                 if (get(places, i) == h) {
-                    parts += Integer.bitCount(partsFrom(i, least));
+                    parts += Integer.bitCount(Sieving.partsFrom(get(guestKinds, i), get(guestSizes, i), least));
                 }
             }
             return parts;
@@ -836,7 +832,8 @@ public final class SieveGuests {
             int least = leastAt(h);
             int sitting = 0;
             for (int i = 0; i < guests; i++) {
-                if (get(places, i) == h && partsFrom(i, least) != 0) {
+                boolean stays = Sieving.partsFrom(get(guestKinds, i), get(guestSizes, i), least) != 0;
+                if (get(places, i) == h && stays) {
                     sitting++;
                 }
             }
