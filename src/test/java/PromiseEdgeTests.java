@@ -51,6 +51,7 @@ public final class PromiseEdgeTests {
         rain();
         years();
         yearsWrapAround();
+        yearsAreCut();
         part();
         image();
         from();
@@ -577,6 +578,12 @@ public final class PromiseEdgeTests {
         SieveGuests z = Scenes.one(PLAIN, 1, HORSEHAIR, 1);
         z.note(0, 3, 0, 2);
         due("30: 'its SIZE as it is': all parts are 1, the first", z.look(0), 0);
+        // Of size 12 there is: 12, 12, 6, 12, 12, 6; 12, 10, 6, 0, 13, 6; a sixth part would tell all of them apart.
+        SieveGuests five = Scenes.one(PLAIN, 12, HORSEHAIR, 1);
+        due("30: 'PARTS 0 .. 4': no sixth one", five.look(0), 1);
+        five.note(0, 2, 2, 1);
+        due("30: bishop, child, tinker, cough", five.is(0), 1 << BISHOP | 1 << CHILD | 1 << TINKER | 1 << COUGH);
+        due("30: 'PARTS 0 .. 4': no sixth one of four kinds", five.look(0), 0);
         SieveGuests first = Scenes.one(PLAIN, 10, HORSEHAIR, 1);
         first.note(0, 3, 0, 3);
         first.note(0, 1, 1, 1);
@@ -728,6 +735,21 @@ public final class PromiseEdgeTests {
                 due("35: 'what is left over': SEED " + seed + ", " + n + " EVENINGS", x.years(seed, n), likingBehind(seed, n));
             }
         }
+    }
+
+    /** The first X of these seeds is where the GUEST or the HOUSE becomes the next one, or one short of it. */
+    private static void yearsAreCut() {
+        SieveGuests x = new SieveGuests();
+        for (int i = 0; i < 6; i++) {
+            x.guest(i % 2 == 0 ? BISHOP : TINKER, 9);
+        }
+        for (int h = 0; h < 4; h++) {
+            x.house(HORSEHAIR, 1 + 2 * h);
+        }
+        due("35: 'X by 65536 (cut)': 1062535168 is 16213 times 65536: guest 1, house 1", x.years(42627, 1), 2);
+        due("35: 'X by 65536 (cut)': 277282815 is one short of 4231 times: guest 0, house 0", x.years(47902, 1), 5);
+        due("35: 'X by 1048576 (cut)': 1682964480 is 1605 times 1048576: guest 0, house 1", x.years(501379, 1), 4);
+        due("35: 'X by 1048576 (cut)': 202375167 is one short of 193 times: guest 3, house 0", x.years(899870, 1), 3);
     }
 
     /** Six guests of five parts each, three houses. */
