@@ -8,7 +8,9 @@ import java.nio.file.Path;
 import java.util.ArrayList;
 import java.util.Arrays;
 import java.util.List;
+import java.util.Map;
 import java.util.Set;
+import java.util.TreeMap;
 import java.util.TreeSet;
 import java.util.regex.Matcher;
 import java.util.regex.Pattern;
@@ -26,6 +28,8 @@ public final class LanguageTests {
         "\\bcatch\\b", "\\bfinally\\b", "\\bsynchronized\\b", "\\bassert\\b", "->", "::", "\\bstatic\\s*\\{",
         "\\w+Exact\\b", "\\b(Object|Map|Set|Scanner|Random|Thread|Class|Arrays\\.sort)\\b", "\\bSystem\\.(?!arraycopy)",
         "\\b(equals|hashCode|toString)\\s*\\(", "\\bvolatile\\b", "\\bnative\\b"};
+
+    private static final Set<String> LIBRARY = Set.of("length", "charAt", "min", "max", "bitCount", "arraycopy");
 
     public static void main(String[] args) throws IOException {
         face();
@@ -58,6 +62,23 @@ public final class LanguageTests {
         DUE.holds("the constructor is public", Modifier.isPublic(makers[0].getModifiers()));
         DUE.holds("the class is public and final", c.getModifiers() == (Modifier.PUBLIC | Modifier.FINAL));
         inside(c);
+        state(c);
+        for (Class<?> inner : c.getDeclaredClasses()) {
+            state(inner);
+        }
+    }
+
+    /** Static is only what never changes; fields are of the types of rule 3. */
+    private static void state(Class<?> c) {
+        for (Field f : c.getDeclaredFields()) {
+            Class<?> type = f.getType();
+            boolean plain = Set.of(int.class, boolean.class, long.class).contains(type);
+            Class<?> cell = type.isArray() ? type.getComponentType() : type;
+            boolean own = List.of(SieveGuests.class.getDeclaredClasses()).contains(cell);
+            DUE.holds(f + " is static only as a constant", !Modifier.isStatic(f.getModifiers())
+                    || Modifier.isFinal(f.getModifiers()) && plain);
+            DUE.holds(f + " is of a type that may be", plain || own || cell == int.class);
+        }
     }
 
     private static void inside(Class<?> c) {
@@ -87,9 +108,64 @@ public final class LanguageTests {
             Matcher m = Pattern.compile(f).matcher(code);
             DUE.holds("no " + f + (m.find() ? " but " + m.group() : ""), !m.reset().find());
         }
-        for (String method : methods(code)) {
+        List<String> methods = methods(code);
+        for (String method : methods) {
             DUE.holds("short: " + method.lines().findFirst().orElse(""), method.lines().count() <= 60);
         }
+        library(code, methods);
+        depth(methods);
+    }
+
+    private static String nameOf(String method) {
+        return method.substring(0, method.indexOf('(')).replaceAll(".*[ \n]", "");
+    }
+
+    private static Set<String> found(String pattern, String code) {
+        Set<String> found = new TreeSet<>();
+        Matcher m = Pattern.compile(pattern).matcher(code);
+        while (m.find()) {
+            found.add(m.group(1));
+        }
+        return found;
+    }
+
+    /** What is called on another thing, and what is made, is the program's own, or stands in rule 4. */
+    private static void library(String code, List<String> methods) {
+        Set<String> called = found("\\.\\s*(\\w+)\\(", code);
+        methods.forEach(method -> called.remove(nameOf(method)));
+        called.removeAll(LIBRARY);
+        DUE.holds("of the library only what stands in rule 4, not " + called, called.isEmpty());
+        Set<String> made = found("\\bnew (\\w+)", code);
+        made.removeAll(found("\\bclass (\\w+)", code));
+        DUE.holds("made are its own and rows of int, not " + made, made.equals(Set.of("int")));
+        DUE.holds("rows are of one dimension", !code.contains("[][]"));
+    }
+
+    /** By names alone, so methods of one name count as one; one that calls itself counts once. */
+    private static void depth(List<String> methods) {
+        Map<String, Set<String>> calls = new TreeMap<>();
+        for (String method : methods) {
+            String body = method.substring(method.indexOf('{'));
+            calls.computeIfAbsent(nameOf(method), n -> new TreeSet<>()).addAll(found("\\b(\\w+)\\(", body));
+        }
+        calls.values().forEach(called -> called.retainAll(calls.keySet()));
+        for (String name : calls.keySet()) {
+            int deep = deepest(calls, name, new ArrayList<>());
+            DUE.holds(name + " calls " + deep + " deep, at most eight", deep <= 8);
+        }
+    }
+
+    private static int deepest(Map<String, Set<String>> calls, String name, List<String> open) {
+        if (open.contains(name)) {
+            return 0;
+        }
+        open.add(name);
+        int deep = 0;
+        for (String called : calls.get(name)) {
+            deep = Math.max(deep, deepest(calls, called, open));
+        }
+        open.remove(name);
+        return deep + 1;
     }
 
     /** Each method with its body: from a line that opens one to the brace that closes it at the same depth. */
@@ -113,7 +189,7 @@ public final class LanguageTests {
         long before = threads.getThreadAllocatedBytes(me);
         spend();
         long bytes = threads.getThreadAllocatedBytes(me) - before;
-        DUE.holds("512 calls make few objects, in bytes " + bytes, bytes < 20000);
+        DUE.holds("512 calls make few objects, in bytes " + bytes, bytes < 10000);
     }
 
     private static void spend() {
